@@ -113,6 +113,10 @@ final class DebtTest {
         tellOwed(c, x, "10 fine", 0, 80, 100);
         c.due("pay by another's lot", x.pay(debtsLot(x, 1, 0, 10)), 0);
         tellOwed(c, x, "another's", 0, 80, 100);
+        int one = debtsLot(x, 0, 1, 1);
+        c.due("pay 1", x.pay(one), 1);
+        tellOwed(c, x, "1 good", 0, 79, 100);
+        c.due("nothing left of 1", x.pay(one), -1);
         OilPress y = owing();
         y.hand(5, 0, 100);
         int whole = debtsLot(y, 0, 0, 91);

@@ -92,6 +92,8 @@ final class FruitTest {
         c.due("lot 200", x.lot(0, 0), -1);
         c.due("count(1)", x.count(1), 200);
         c.due("told(199, 1)", x.told(199, 1), 1);
+        c.due("told(200, 1)", x.told(200, 1), -1);
+        c.due("told(201, 1)", x.told(201, 1), -1);
     }
 
     private static void wishes(Check c) {

@@ -18,6 +18,7 @@ final class MillTest {
         pressBegins(c);
         pressAlone(c);
         pressTold(c);
+        pressToldIsCut(c);
         gives(c);
         shares(c);
         sharesTied(c);
@@ -325,6 +326,51 @@ final class MillTest {
         c.due("at(0, 6)", y.at(0, 6), -1);
     }
 
+    /** What would be a whole one but for the last part is cut. */
+    private static void pressToldIsCut(Check c) {
+        OilPress x = Village.withGroves();
+        x.scale(2);
+        int[] eighths = {22, 1};
+        int[] thousandths = {36, 27};
+        int[] sours = {99, 100};
+        for (int i = 0; i < 2; i++) {
+            x.lot(SMALL, 0);
+            x.weigh(i, eighths[i]);
+            x.sample(i, thousandths[i], sours[i]);
+        }
+        Village.pressed(x, 0, 0, 1);
+        c.due("27 times 36 and 1 times 27 are 999", x.at(0, 7), 0);
+        c.due("27 times 99 and 1 times 100, of 28", x.at(0, 9), 99);
+        OilPress y = Village.withGroves();
+        Village.pressed(y, 0, Village.sampled(y, SMALL, 0, 1, 100, 9), Village.sampled(y, SMALL, 0, 1, 100, 10));
+        c.due("1000 and 1000, by 1000", y.at(0, 7), 2);
+        c.due("half of 19", y.at(0, 9), 9);
+        OilPress z = Village.withGroves();
+        z.scale(2);
+        for (int i = 0; i < 2; i++) {
+            z.lot(SMALL, 0);
+            z.weigh(i, 1);
+            z.sample(i, 1, i);
+        }
+        Village.pressed(z, 0, 0, 1);
+        c.due("two tenths", z.at(0, 7), 0);
+        c.due("half of 1", z.at(0, 9), 0);
+        z.gave(0, 1);
+        c.due("share(0)", z.share(0), 0);
+        c.due("told(0, 7)", z.told(0, 7), 1);
+        c.due("told(1, 7)", z.told(1, 7), 0);
+        OilPress one = Village.withGroves();
+        one.lot(PLAIN, 0);
+        one.scale(1);
+        one.weigh(0, 1);
+        one.sample(0, 1, 77);
+        Village.pressed(one, 2, 0);
+        c.due("one tenth", one.at(2, 9), 77);
+        one.gave(2, 1);
+        c.due("share(2)", one.share(2), 0);
+        c.due("told(0, 7)", one.told(0, 7), 1);
+    }
+
     private static void gives(Check c) {
         c.part("promise 14");
         OilPress x = Village.withGroves();
@@ -408,18 +454,26 @@ final class MillTest {
         for (int lot = 0; lot < 5; lot++) {
             c.due("like ones, told(" + lot + ", 7)", x.told(lot, 7), want[lot]);
         }
-        OilPress y = Village.withGroves();
-        int[] kilos = {10, 20, 30};
-        for (int i = 0; i < 3; i++) {
-            Village.sampled(y, SMALL, 0, kilos[i], 100, 10);
+        mostCutOff(c, new int[] {10, 20, 30}, 10, 2, 3, 5);
+        mostCutOff(c, new int[] {30, 20, 10}, 10, 5, 3, 2);
+        mostCutOff(c, new int[] {20, 10, 30}, 10, 3, 2, 5);
+        mostCutOff(c, new int[] {10, 30, 30}, 10, 2, 4, 4);
+        mostCutOff(c, new int[] {30, 10, 30}, 9, 4, 1, 4);
+        mostCutOff(c, new int[] {10, 20, 20, 10}, 5, 1, 2, 1, 1);
+    }
+
+    private static void mostCutOff(Check c, int[] kilos, int tenths, int... shares) {
+        OilPress x = Village.withGroves();
+        int[] lots = new int[kilos.length];
+        for (int i = 0; i < kilos.length; i++) {
+            lots[i] = Village.sampled(x, SMALL, 0, kilos[i], 100, 10);
         }
-        y.keep(0);
-        Village.pressed(y, 0, 0, 1, 2);
-        y.gave(0, 10);
-        y.share(0);
-        int[] parts = {2, 3, 5};
-        for (int lot = 0; lot < 3; lot++) {
-            c.due("most cut off, told(" + lot + ", 7)", y.told(lot, 7), parts[lot]);
+        x.keep(0);
+        Village.pressed(x, 0, lots);
+        x.gave(0, tenths);
+        x.share(0);
+        for (int lot : lots) {
+            c.due(tenths + " of " + kilos.length + ", told(" + lot + ", 7)", x.told(lot, 7), shares[lot]);
         }
     }
 

@@ -11,6 +11,7 @@ final class PlanTest {
         howMany(c);
         fewestLate(c);
         endsFirst(c);
+        someLate(c);
         leastNumbers(c);
         washingAtFirst(c);
         firstHourOfTheDay(c);
@@ -113,6 +114,35 @@ final class PlanTest {
         Village.sampled(y, CLEAN, 1, 100, 100, 10);
         c.due("plan(0)", y.plan(0), 3);
         due(c, y, "fewest too late ahead of the end", 0, 58, 1, 0, 2);
+    }
+
+    /** The like 0 is one like another; those that are late already come last and are none of the late ones. */
+    private static void someLate(Check c) {
+        OilPress x = new OilPress();
+        x.grove(0, 0);
+        x.grove(0, 9);
+        x.mill(2, 0, 100);
+        x.fresh(0);
+        Village.sampled(x, LATE, 0, 10, 100, 10);
+        Village.sampled(x, CLEAN, 0, 10, 100, 10);
+        Village.sampled(x, CLEAN, 1, 10, 100, 10);
+        Village.sampled(x, CLEAN, 0, 10, 100, 10);
+        Village.sampled(x, CLEAN, 1, 10, 100, 10);
+        c.due("plan(2)", x.plan(2), 5);
+        due(c, x, "none too late", 0, 9, 0, 1, 3, 2, 4);
+        x.wait(5);
+        c.due("plan(2)", x.plan(2), 5);
+        due(c, x, "two too late", 2, 14, 0, 1, 3, 2, 4);
+        x.wait(2);
+        c.due("plan(2)", x.plan(2), 5);
+        due(c, x, "three too late", 3, 16, 1, 3, 0, 2, 4);
+        x.wash(2);
+        x.wait(2);
+        c.due("plan(2)", x.plan(2), 5);
+        due(c, x, "three too late, washed", 3, 16, 1, 3, 0, 2, 4);
+        x.wait(1);
+        c.due("plan(2)", x.plan(2), 5);
+        due(c, x, "all late, none too late", 0, 15, 0, 1, 2, 3, 4);
     }
 
     private static void leastNumbers(Check c) {

@@ -15,6 +15,7 @@ final class VatTest {
         poursOfNothing(c);
         poursToTapped(c);
         fetches(c);
+        fetchesOneTenth(c);
         draws(c);
         held(c);
         heldSourness(c);
@@ -38,6 +39,9 @@ final class VatTest {
             c.due("vat " + i, x.vat(i % 3, i % 2 == 0, i), i);
         }
         c.due("vat 12", x.vat(0, false, 1), -1);
+        c.due("held(12, 2)", x.held(12, 2), -1);
+        c.due("held(13, 2)", x.held(13, 2), -1);
+        c.due("held(11, 2)", x.held(11, 2), 11);
         c.due("count(2)", x.count(2), 12);
     }
 
@@ -208,6 +212,21 @@ final class VatTest {
         c.due("count(7)", x.count(7), 90);
         tell(c, x, 1, "both", 1, 0, 5000, 10, 10, 1, 10, 1);
         tell(c, x, 0, "another", 2, 0, 5000, 0, 0, 0, 0, 1);
+    }
+
+    private static void fetchesOneTenth(Check c) {
+        OilPress x = Village.withGroves();
+        int vat = x.vat(2, false, 10);
+        Village.shared(x, 0, 2, Village.sampled(x, SMALL, 0, 1, 100, 7), Village.sampled(x, SMALL, 0, 1, 100, 8));
+        c.due("pour(0, 0)", x.pour(0, 0), 2);
+        c.due("fetch(0)", x.fetch(0), 1);
+        tell(c, x, vat, "one tenth in it", 2, 0, 10, 1, 0, 1, 7, 1);
+        c.due("fetch(0), again", x.fetch(0), -1);
+        c.due("fetch(1)", x.fetch(1), 1);
+        tell(c, x, vat, "nothing in it", 2, 0, 10, 0, 0, 0, 0, 1);
+        Village.shared(x, 0, 1, Village.sampled(x, SMALL, 0, 1, 100, 7));
+        x.pour(0, 0);
+        tell(c, x, vat, "one poured", 2, 0, 10, 1, 0, 0, 7, 1);
     }
 
     private static void draws(Check c) {
