@@ -295,8 +295,7 @@ public final class OilPress {
         if (from == null || !isWithin(tenths, 1, from.ofPress)) {
             return NONE;
         }
-        from.ofPress -= tenths;
-        from.lose(tenths);
+        from.loseOfPress(tenths);
         totals.drawn += tenths;
         return from.ofPress;
     }
@@ -306,8 +305,7 @@ public final class OilPress {
         if (!isFarmer(farmer) || from == null || !isWithin(tenths, 1, from.ofPress)) {
             return NONE;
         }
-        from.ofPress -= tenths;
-        from.lose(tenths);
+        from.loseOfPress(tenths);
         totals.lent += tenths;
         debts.change(farmer, from.sort, tenths);
         return debts.owed(farmer, from.sort);
@@ -814,6 +812,11 @@ public final class OilPress {
                 sourSum = 0;
                 sourTenths = 0;
             }
+        }
+
+        void loseOfPress(int taken) {
+            ofPress -= taken;
+            lose(taken);
         }
 
         int sournessAbove() {
