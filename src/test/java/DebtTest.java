@@ -67,19 +67,13 @@ final class DebtTest {
         return lot;
     }
 
-    private static void tellOwed(Check c, OilPress x, String when, int... want) {
-        for (int sort = 0; sort < 3; sort++) {
-            c.due(when + ", owes(5, " + sort + ")", x.owes(5, sort), want[sort]);
-        }
-    }
-
     private static void pays(Check c) {
         c.part("promise 22");
         OilPress x = owing();
         int lot = debtsLot(x, 0, 0, 1000);
         int vat = x.told(lot, 9);
         c.due("pay, fine", x.pay(lot), 100 + 91 + 84);
-        tellOwed(c, x, "fine", 0, 0, 0);
+        Due.owes(c, x, 5, "fine", 0, 0, 0);
         c.due("left", x.told(lot, 8), 725);
         c.due("share", x.told(lot, 7), 1000);
         c.due("the press's", x.held(vat, 4), 275);
@@ -93,35 +87,35 @@ final class DebtTest {
         c.due("balance()", x.balance(), 0);
         OilPress y = owing();
         c.due("pay, good", y.pay(debtsLot(y, 0, 1, 1000)), 100 + 91);
-        tellOwed(c, y, "good", 100, 0, 0);
+        Due.owes(c, y, 5, "good", 100, 0, 0);
         OilPress z = owing();
         c.due("pay, for lamps", z.pay(debtsLot(z, 0, 2, 1000)), 100);
-        tellOwed(c, z, "for lamps", 100, 100, 0);
+        Due.owes(c, z, 5, "for lamps", 100, 100, 0);
     }
 
     private static void paysInPart(Check c) {
         OilPress x = owing();
         c.due("pay 30", x.pay(debtsLot(x, 0, 0, 30)), 30);
-        tellOwed(c, x, "30 fine", 70, 100, 100);
+        Due.owes(c, x, 5, "30 fine", 70, 100, 100);
         int lot = debtsLot(x, 0, 0, 79);
         c.due("pay 79", x.pay(lot), 79);
-        tellOwed(c, x, "79 fine", 0, 91, 100);
+        Due.owes(c, x, 5, "79 fine", 0, 91, 100);
         c.due("told(8)", x.told(lot, 8), 0);
         c.due("nothing left", x.pay(lot), -1);
         c.due("nothing left", x.fetch(lot), -1);
         c.due("pay 10", x.pay(debtsLot(x, 0, 0, 10)), 10);
-        tellOwed(c, x, "10 fine", 0, 80, 100);
+        Due.owes(c, x, 5, "10 fine", 0, 80, 100);
         c.due("pay by another's lot", x.pay(debtsLot(x, 1, 0, 10)), 0);
-        tellOwed(c, x, "another's", 0, 80, 100);
+        Due.owes(c, x, 5, "another's", 0, 80, 100);
         int one = debtsLot(x, 0, 1, 1);
         c.due("pay 1", x.pay(one), 1);
-        tellOwed(c, x, "1 good", 0, 79, 100);
+        Due.owes(c, x, 5, "1 good", 0, 79, 100);
         c.due("nothing left of 1", x.pay(one), -1);
         OilPress y = owing();
         y.hand(5, 0, 100);
         int whole = debtsLot(y, 0, 0, 91);
         c.due("pay 91", y.pay(whole), 91);
-        tellOwed(c, y, "just the good", 0, 0, 100);
+        Due.owes(c, y, 5, "just the good", 0, 0, 100);
     }
 
     private static void paysRefused(Check c) {
@@ -133,13 +127,13 @@ final class DebtTest {
         c.due("sampled", x.pay(lot), -1);
         Village.shared(x, 2, 1000, lot);
         c.due("shared", x.pay(lot), -1);
-        tellOwed(c, x, "as it was", 100, 100, 100);
+        Due.owes(c, x, 5, "as it was", 100, 100, 100);
         int small = Village.sampled(x, Village.SMALL, 0, 1000, 100, 10);
         x.pour(2, x.vat(0, false, 5000));
         Village.shared(x, 2, 1000, small);
         x.pour(2, x.vat(0, false, 5000));
         c.due("a small one", x.pay(small), -1);
-        tellOwed(c, x, "as it was", 100, 100, 100);
+        Due.owes(c, x, 5, "as it was", 100, 100, 100);
     }
 
     private static void hands(Check c) {
@@ -151,18 +145,18 @@ final class DebtTest {
         c.due("hand(5, 3, 1)", x.hand(5, 3, 1), -1);
         c.due("hand(5, 0, -1)", x.hand(5, 0, -1), -1);
         c.due("hand(5, 0, 50001)", x.hand(5, 0, 50001), -1);
-        tellOwed(c, x, "as it was", 100, 100, 100);
+        Due.owes(c, x, 5, "as it was", 100, 100, 100);
         c.due("hand(5, 0, 0)", x.hand(5, 0, 0), 0);
         c.due("hand(6, 0, 100)", x.hand(6, 0, 100), 0);
-        tellOwed(c, x, "as it was", 100, 100, 100);
+        Due.owes(c, x, 5, "as it was", 100, 100, 100);
         c.due("hand(5, 2, 99)", x.hand(5, 2, 99), 99);
-        tellOwed(c, x, "for lamps", 100, 100, 1);
+        Due.owes(c, x, 5, "for lamps", 100, 100, 1);
         c.due("hand(5, 2, 99)", x.hand(5, 2, 99), 1);
-        tellOwed(c, x, "for lamps", 100, 100, 0);
+        Due.owes(c, x, 5, "for lamps", 100, 100, 0);
         c.due("hand(5, 1, 50000)", x.hand(5, 1, 50000), 100);
-        tellOwed(c, x, "good", 100, 0, 0);
+        Due.owes(c, x, 5, "good", 100, 0, 0);
         c.due("hand(5, 0, 50000)", x.hand(5, 0, 50000), 100);
-        tellOwed(c, x, "fine", 0, 0, 0);
+        Due.owes(c, x, 5, "fine", 0, 0, 0);
         c.due("to no vat", x.held(0, 3) + x.held(1, 3) + x.held(2, 3), 2700);
         c.due("the press's", x.held(0, 4), 400);
     }
@@ -187,11 +181,11 @@ final class DebtTest {
     private static void handsTold(Check c) {
         OilPress x = owing();
         c.due("hand(5, 0, 150)", x.hand(5, 0, 150), 150);
-        tellOwed(c, x, "50 of it to the good", 0, 45, 100);
+        Due.owes(c, x, 5, "50 of it to the good", 0, 45, 100);
         c.due("hand(5, 1, 46)", x.hand(5, 1, 46), 46);
-        tellOwed(c, x, "one of it for lamps", 0, 0, 99);
+        Due.owes(c, x, 5, "one of it for lamps", 0, 0, 99);
         c.due("hand(5, 0, 200)", x.hand(5, 0, 200), 83);
-        tellOwed(c, x, "all", 0, 0, 0);
+        Due.owes(c, x, 5, "all", 0, 0, 0);
     }
 
     private static void owes(Check c) {
@@ -203,6 +197,6 @@ final class DebtTest {
         c.due("owes(0, 3)", x.owes(0, 3), -1);
         c.due("owes(0, 0)", x.owes(0, 0), 0);
         c.due("owes(39, 2)", x.owes(39, 2), 0);
-        tellOwed(c, x, "lent", 100, 100, 100);
+        Due.owes(c, x, 5, "lent", 100, 100, 100);
     }
 }

@@ -7,6 +7,7 @@ import java.nio.file.Files;
 import java.nio.file.Path;
 import java.util.Arrays;
 import java.util.TreeSet;
+import java.util.regex.Matcher;
 import java.util.regex.Pattern;
 
 /** The public face and those rules of ../shared/LANGUAGE.md that can be read from the class or its text. */
@@ -18,7 +19,8 @@ final class FaceTest {
             + "sample(int,int,int)boolean scale(int)boolean share(int)int take(int)boolean told(int,int)int "
             + "vat(int,boolean,int)int wait(int)int wash(int)boolean weigh(int,int)int wish(int,boolean)boolean";
     private static final String[] NOT_USED = {"throw", "throws", "try", "catch", "synchronized", "assert", "import",
-            "package", "->", "::", "float", "double", "Exact", "System", "Object", "native", "var"};
+            "package", "->", "::", "float", "double", "Exact", "System", "Object", "native", "var", "equals", "hashCode",
+            "toString"};
 
     public static void main(String[] args) throws Exception {
         Check c = new Check();
@@ -39,6 +41,7 @@ final class FaceTest {
         fields(c);
         inside(c);
         words(c);
+        methods(c);
         c.end();
     }
 
@@ -67,6 +70,11 @@ final class FaceTest {
             c.due("private is " + f, Modifier.isPrivate(f.getModifiers()), !f.getName().equals("NONE"));
             staticIsFinal(c, f, f.getModifiers());
         }
+        c.due("at most 20 fields", ownFields(OilPress.class) <= 20, true);
+    }
+
+    private static long ownFields(Class<?> of) {
+        return Arrays.stream(of.getDeclaredFields()).filter(f -> !Modifier.isStatic(f.getModifiers())).count();
     }
 
     private static void staticIsFinal(Check c, Member m, int how) {
@@ -79,23 +87,61 @@ final class FaceTest {
         for (Class<?> one : inside) {
             c.due("static " + one, Modifier.isStatic(one.getModifiers()), true);
             c.due("not public " + one, Modifier.isPublic(one.getModifiers()), false);
-            int own = 0;
             for (Field f : one.getDeclaredFields()) {
                 staticIsFinal(c, f, f.getModifiers());
-                own += Modifier.isStatic(f.getModifiers()) ? 0 : 1;
             }
-            c.due("at most 20 fields " + one, own <= 20, true);
+            for (Method m : one.getDeclaredMethods()) {
+                c.due("at most 7 parameters " + m, m.getParameterCount() <= 7, true);
+            }
+            c.due("at most 20 fields " + one, ownFields(one) <= 20, true);
         }
     }
 
+    private static String text() throws Exception {
+        return Files.readString(Path.of("src/main/java/OilPress.java"));
+    }
+
+    private static String code() throws Exception {
+        return text().replaceAll("(?s)/\\*.*?\\*/", "").replaceAll("//.*", "");
+    }
+
     private static void words(Check c) throws Exception {
-        String text = Files.readString(Path.of("src/main/java/OilPress.java"));
-        String code = text.replaceAll("(?s)/\\*.*?\\*/", "").replaceAll("//.*", "");
+        String code = code();
         for (String word : NOT_USED) {
             String edge = Character.isLetter(word.charAt(0)) ? "\\b" : "";
             boolean is = Pattern.compile(edge + Pattern.quote(word) + edge).matcher(code).find();
             c.due("word " + word, is, false);
         }
-        c.due("signs 1 to 127", text.chars().allMatch(s -> s >= 1 && s <= 127), true);
+        c.due("signs 1 to 127", text().chars().allMatch(s -> s >= 1 && s <= 127), true);
+    }
+
+    /** Methods are short; what a call makes lives in one room for all calls, so that few of them make an object. */
+    private static void methods(Check c) throws Exception {
+        Pattern head = Pattern.compile("^( {4}| {8})(?=\\w)[\\w.\\[\\] ]*?(\\w+)\\(.*\\) \\{$");
+        TreeSet<String> making = new TreeSet<>();
+        String name = "";
+        String end = "";
+        int length = 0;
+        int found = 0;
+        for (String line : code().split("\n")) {
+            Matcher m = head.matcher(line);
+            if (end.isEmpty() && m.matches()) {
+                name = m.group(2);
+                end = m.group(1) + "}";
+                length = 0;
+                found++;
+            }
+            length++;
+            if (!end.isEmpty() && line.matches(".*\\bnew\\b.*")) {
+                making.add(name);
+            }
+            if (!end.isEmpty() && line.equals(end)) {
+                c.due("at most 60 lines " + name, length <= 60, true);
+                end = "";
+            }
+        }
+        c.due("methods that were found: " + found, found > 80, true);
+        c.due("objects are made in " + making, making.equals(new TreeSet<>(Arrays.asList("OilPress", "grove", "lot",
+                "vat"))), true);
     }
 }

@@ -18,15 +18,9 @@ final class FruitTest {
     private static void anew(Check c) {
         c.part("promise 1");
         OilPress x = new OilPress();
-        int[] counts = {0, 0, 0, 0, 0, -1, 0, 0, 0, 0, 0};
-        for (int what = 0; what < counts.length; what++) {
-            c.due("count(" + what + ")", x.count(what), counts[what]);
-        }
-        int[] mill = {1000, 500, 0, 0, 0, 0, -1, 0, -1, 0, -1};
-        for (int m = 0; m < 3; m++) {
-            for (int what = 0; what < mill.length; what++) {
-                c.due("at(" + m + ", " + what + ")", x.at(m, what), mill[what]);
-            }
+        Due.counts(c, x, "anew", 0, 0, 0, 0, 0, -1, 0, 0, 0, 0, 0);
+        for (int mill = 0; mill < 3; mill++) {
+            Due.at(c, x, mill, "anew", 1000, 500, 0, 0, 0, 0, -1, 0, -1, 0, -1);
         }
         c.due("balance()", x.balance(), 0);
         c.due("told(0, 0)", x.told(0, 0), -1);
@@ -72,10 +66,7 @@ final class FruitTest {
         x.wait(29);
         for (int kind = 0; kind < 5; kind++) {
             c.due("lot of kind " + kind, x.lot(kind, 2), kind);
-            int[] want = {kind, 2, 2, 0, 0, 0, 0, 0, 0, -1, kind == 0 || kind == 3 ? 0 : 1};
-            for (int what = 0; what < want.length; what++) {
-                c.due("told(" + kind + ", " + what + ")", x.told(kind, what), want[what]);
-            }
+            Due.told(c, x, kind, "anew", kind, 2, 2, 0, 0, 0, 0, 0, 0, -1, kind == 0 || kind == 3 ? 0 : 1);
         }
         c.due("count(1)", x.count(1), 5);
         x.wait(1);
@@ -242,29 +233,23 @@ final class FruitTest {
         OilPress x = Village.withGroves();
         x.wait(10);
         int lot = Village.sampled(x, Village.LATE, 2, 100, 200, 30);
-        tell(c, x, lot, "sampled", 3, 2, 1, 2, 1000, 200, 30, 0, 0, -1, 0);
+        Due.told(c, x, lot, "sampled", 3, 2, 1, 2, 1000, 200, 30, 0, 0, -1, 0);
         x.put(lot, 2);
-        tell(c, x, lot, "in a bin", 3, 2, 1, 3, 1000, 200, 30, 0, 0, 2, 0);
+        Due.told(c, x, lot, "in a bin", 3, 2, 1, 3, 1000, 200, 30, 0, 0, 2, 0);
         x.wait(x.press(2));
-        tell(c, x, lot, "pressed", 3, 2, 1, 4, 1000, 200, 30, 0, 0, 2, 0);
+        Due.told(c, x, lot, "pressed", 3, 2, 1, 4, 1000, 200, 30, 0, 0, 2, 0);
         x.gave(2, 100);
         x.share(2);
-        tell(c, x, lot, "shared", 3, 2, 1, 5, 1000, 200, 30, 90, 0, 2, 0);
+        Due.told(c, x, lot, "shared", 3, 2, 1, 5, 1000, 200, 30, 90, 0, 2, 0);
         x.vat(0, false, 500);
         x.vat(1, false, 500);
         x.pour(2, 1);
-        tell(c, x, lot, "poured", 3, 2, 1, 6, 1000, 200, 30, 90, 90, 1, 0);
+        Due.told(c, x, lot, "poured", 3, 2, 1, 6, 1000, 200, 30, 90, 90, 1, 0);
         x.fetch(lot);
-        tell(c, x, lot, "fetched", 3, 2, 1, 6, 1000, 200, 30, 90, 0, 1, 0);
+        Due.told(c, x, lot, "fetched", 3, 2, 1, 6, 1000, 200, 30, 90, 0, 1, 0);
         c.due("told(0, -1)", x.told(0, -1), -1);
         c.due("told(0, 11)", x.told(0, 11), -1);
         c.due("told(-1, 0)", x.told(-1, 0), -1);
         c.due("told(1, 0)", x.told(1, 0), -1);
-    }
-
-    private static void tell(Check c, OilPress x, int lot, String when, int... want) {
-        for (int what = 0; what < want.length; what++) {
-            c.due(when + ", told(" + lot + ", " + what + ")", x.told(lot, what), want[what]);
-        }
     }
 }

@@ -311,10 +311,7 @@ final class MillTest {
         x.put(Village.sampled(x, CLEAN, 2, 100, 123, 57), 0);
         x.put(Village.sampled(x, CLEAN, 2, 33, 99, 10), 0);
         c.due("press(0)", x.press(0), 3);
-        int[] want = {1000, 500, 5, 2, 1, 0, 2, 155, -1, 45, -1};
-        for (int what = 0; what < want.length; what++) {
-            c.due("at(0, " + what + ")", x.at(0, what), want[what]);
-        }
+        Due.at(c, x, 0, "pressing", 1000, 500, 5, 2, 1, 0, 2, 155, -1, 45, -1);
         OilPress y = Village.withGroves();
         y.mill(0, 0, 1);
         for (int i = 0; i < 12; i++) {
@@ -507,29 +504,23 @@ final class MillTest {
         x.wait(2);
         int lot = Village.sampled(x, CLEAN, 0, 100, 150, 33);
         x.put(lot, 2);
-        tell(c, x, "in the bin", 1000, 500, 2, 1, 0, 1, -1, 0, -1, 0, -1);
+        Due.at(c, x, 2, "in the bin", 1000, 500, 2, 1, 0, 1, -1, 0, -1, 0, -1);
         x.press(2);
-        tell(c, x, "pressing", 1000, 500, 4, 1, 1, 0, 1, 150, -1, 33, -1);
+        Due.at(c, x, 2, "pressing", 1000, 500, 4, 1, 1, 0, 1, 150, -1, 33, -1);
         x.wait(2);
-        tell(c, x, "not busy", 1000, 500, 4, 1, 1, 0, 1, 150, -1, 33, -1);
+        Due.at(c, x, 2, "not busy", 1000, 500, 4, 1, 1, 0, 1, 150, -1, 33, -1);
         x.gave(2, 140);
-        tell(c, x, "told", 1000, 500, 4, 1, 1, 0, 1, 150, 140, 33, -1);
+        Due.at(c, x, 2, "told", 1000, 500, 4, 1, 1, 0, 1, 150, 140, 33, -1);
         x.share(2);
-        tell(c, x, "shared", 1000, 500, 4, 1, 1, 0, 1, 150, 140, 33, 14);
+        Due.at(c, x, 2, "shared", 1000, 500, 4, 1, 1, 0, 1, 150, 140, 33, 14);
         x.vat(0, true, 200);
         x.pour(2, 0);
-        tell(c, x, "poured", 1000, 500, 4, 0, 0, 0, 1, 0, -1, 0, -1);
+        Due.at(c, x, 2, "poured", 1000, 500, 4, 0, 0, 0, 1, 0, -1, 0, -1);
         x.wash(2);
-        tell(c, x, "washed", 1000, 500, 6, 0, 0, 1, 1, 0, -1, 0, -1);
+        Due.at(c, x, 2, "washed", 1000, 500, 6, 0, 0, 1, 1, 0, -1, 0, -1);
         c.due("at(2, -1)", x.at(2, -1), -1);
         c.due("at(2, 11)", x.at(2, 11), -1);
         c.due("at(-1, 0)", x.at(-1, 0), -1);
         c.due("at(3, 0)", x.at(3, 0), -1);
-    }
-
-    private static void tell(Check c, OilPress x, String when, int... want) {
-        for (int what = 0; what < want.length; what++) {
-            c.due(when + ", at(2, " + what + ")", x.at(2, what), want[what]);
-        }
     }
 }

@@ -145,10 +145,7 @@ final class TimeTest {
         x.lot(0, 0);
         x.weigh(3, -1);
         int hour = x.count(4);
-        int[] want = {3, 4, 1, hour / 10, hour, 8, 1005, 500, 7, 11, 1};
-        for (int what = 0; what < want.length; what++) {
-            c.due("count(" + what + ")", x.count(what), want[what]);
-        }
+        Due.counts(c, x, "some of each", 3, 4, 1, hour / 10, hour, 8, 1005, 500, 7, 11, 1);
         c.due("hour", hour, 10 + 21 + 1);
         c.due("count(-1)", x.count(-1), -1);
         c.due("count(11)", x.count(11), -1);

@@ -33,8 +33,8 @@ final class VatTest {
         c.due("count(2)", x.count(2), 0);
         c.due("vat(0, false, 1)", x.vat(0, false, 1), 0);
         c.due("vat(2, true, 50000)", x.vat(2, true, 50000), 1);
-        tell(c, x, 0, "anew", 0, 0, 1, 0, 0, 0, 0, 1);
-        tell(c, x, 1, "anew", 2, 1, 50000, 0, 0, 0, 0, 1);
+        Due.held(c, x, 0, "anew", 0, 0, 1, 0, 0, 0, 0, 1);
+        Due.held(c, x, 1, "anew", 2, 1, 50000, 0, 0, 0, 0, 1);
         for (int i = 2; i < 12; i++) {
             c.due("vat " + i, x.vat(i % 3, i % 2 == 0, i), i);
         }
@@ -54,8 +54,8 @@ final class VatTest {
                 Village.sampled(x, SMALL, 0, 100, 100, 50));
         c.due("count(6)", x.count(6), 101);
         c.due("pour(0, 1)", x.pour(0, 1), 101);
-        tell(c, x, 1, "poured", 1, 0, 500, 101, 10, 0, 40, 1);
-        tell(c, x, 0, "another", 2, 1, 500, 0, 0, 0, 0, 1);
+        Due.held(c, x, 1, "poured", 1, 0, 500, 101, 10, 0, 40, 1);
+        Due.held(c, x, 0, "another", 2, 1, 500, 0, 0, 0, 0, 1);
         for (int lot = 0; lot < 2; lot++) {
             c.due("told(" + lot + ", 3)", x.told(lot, 3), 6);
             c.due("told(" + lot + ", 7)", x.told(lot, 7), lot == 0 ? 46 : 45);
@@ -68,7 +68,7 @@ final class VatTest {
         c.due("mill(0, 1, 1)", x.mill(0, 0, 1), true);
         Village.shared(x, 0, 9, Village.sampled(x, PLAIN, 0, 100, 100, 30));
         c.due("pour(0, 1)", x.pour(0, 1), 110);
-        tell(c, x, 1, "poured two", 1, 0, 500, 110, 10, 0, 431, 11);
+        Due.held(c, x, 1, "poured two", 1, 0, 500, 110, 10, 0, 431, 11);
     }
 
     private static void poursRefused(Check c) {
@@ -157,7 +157,7 @@ final class VatTest {
         Village.shared(x, 0, 0, Village.sampled(x, PLAIN, 0, 100, 100, 999));
         c.due("nothing, to clean", x.pour(0, 1), -1);
         c.due("nothing, sour", x.pour(0, 0), 0);
-        tell(c, x, 0, "nothing", 0, 0, 100, 0, 0, 0, 0, 1);
+        Due.held(c, x, 0, "nothing", 0, 0, 100, 0, 0, 0, 0, 1);
         c.due("told(0, 3)", x.told(0, 3), 6);
         c.due("told(0, 9)", x.told(0, 9), 0);
         c.due("fetch(0)", x.fetch(0), -1);
@@ -165,7 +165,7 @@ final class VatTest {
         c.due("full", x.pour(0, 0), 100);
         Village.shared(x, 0, 0, Village.sampled(x, PLAIN, 0, 100, 100, 999));
         c.due("nothing, to a full one", x.pour(0, 0), 100);
-        tell(c, x, 0, "nothing to a full one", 0, 0, 100, 100, 10, 0, 77, 1);
+        Due.held(c, x, 0, "nothing to a full one", 0, 0, 100, 100, 10, 0, 77, 1);
         x.fetch(1);
         Village.shared(x, 0, 0, Village.sampled(x, PLAIN, 0, 100, 100, 10));
         c.due("nothing, to a tapped one", x.pour(0, 0), -1);
@@ -186,9 +186,9 @@ final class VatTest {
         x.draw(0, 9);
         c.due("tapped still", x.pour(1, 0), -1);
         x.fetch(0);
-        tell(c, x, 0, "empty", 2, 0, 5000, 0, 0, 0, 0, 1);
+        Due.held(c, x, 0, "empty", 2, 0, 5000, 0, 0, 0, 0, 1);
         c.due("tapped no more", x.pour(1, 0), 100);
-        tell(c, x, 0, "filled anew", 2, 0, 5000, 100, 10, 0, 20, 1);
+        Due.held(c, x, 0, "filled anew", 2, 0, 5000, 100, 10, 0, 20, 1);
     }
 
     private static void fetches(Check c) {
@@ -204,14 +204,14 @@ final class VatTest {
         c.due("fetch(2)", x.fetch(2), -1);
         c.due("count(7)", x.count(7), 0);
         c.due("fetch(1)", x.fetch(1), 60);
-        tell(c, x, 1, "a debt's", 1, 0, 5000, 40, 10, 1, 10, 1);
+        Due.held(c, x, 1, "a debt's", 1, 0, 5000, 40, 10, 1, 10, 1);
         c.due("fetch(1), again", x.fetch(1), -1);
         c.due("fetch(0)", x.fetch(0), 30);
         c.due("told(0, 7)", x.told(0, 7), 30);
         c.due("told(0, 8)", x.told(0, 8), 0);
         c.due("count(7)", x.count(7), 90);
-        tell(c, x, 1, "both", 1, 0, 5000, 10, 10, 1, 10, 1);
-        tell(c, x, 0, "another", 2, 0, 5000, 0, 0, 0, 0, 1);
+        Due.held(c, x, 1, "both", 1, 0, 5000, 10, 10, 1, 10, 1);
+        Due.held(c, x, 0, "another", 2, 0, 5000, 0, 0, 0, 0, 1);
     }
 
     private static void fetchesOneTenth(Check c) {
@@ -220,13 +220,13 @@ final class VatTest {
         Village.shared(x, 0, 2, Village.sampled(x, SMALL, 0, 1, 100, 7), Village.sampled(x, SMALL, 0, 1, 100, 8));
         c.due("pour(0, 0)", x.pour(0, 0), 2);
         c.due("fetch(0)", x.fetch(0), 1);
-        tell(c, x, vat, "one tenth in it", 2, 0, 10, 1, 0, 1, 7, 1);
+        Due.held(c, x, vat, "one tenth in it", 2, 0, 10, 1, 0, 1, 7, 1);
         c.due("fetch(0), again", x.fetch(0), -1);
         c.due("fetch(1)", x.fetch(1), 1);
-        tell(c, x, vat, "nothing in it", 2, 0, 10, 0, 0, 0, 0, 1);
+        Due.held(c, x, vat, "nothing in it", 2, 0, 10, 0, 0, 0, 0, 1);
         Village.shared(x, 0, 1, Village.sampled(x, SMALL, 0, 1, 100, 7));
         x.pour(0, 0);
-        tell(c, x, vat, "one poured", 2, 0, 10, 1, 0, 0, 7, 1);
+        Due.held(c, x, vat, "one poured", 2, 0, 10, 1, 0, 0, 7, 1);
     }
 
     private static void draws(Check c) {
@@ -244,9 +244,9 @@ final class VatTest {
         c.due("count(8)", x.count(8), 0);
         c.due("held(1, 5)", x.held(vat, 5), 0);
         c.due("draw(1, 1)", x.draw(vat, 1), 499);
-        tell(c, x, vat, "drawn", 1, 0, 50000, 999, 499, 1, 10, 1);
+        Due.held(c, x, vat, "drawn", 1, 0, 50000, 999, 499, 1, 10, 1);
         c.due("draw(1, 499)", x.draw(vat, 499), 0);
-        tell(c, x, vat, "drawn all", 1, 0, 50000, 500, 0, 1, 10, 1);
+        Due.held(c, x, vat, "drawn all", 1, 0, 50000, 500, 0, 1, 10, 1);
         c.due("count(8)", x.count(8), 500);
         c.due("draw(1, 1)", x.draw(vat, 1), -1);
         c.due("the lot's share stays", x.fetch(0), 500);
@@ -256,13 +256,13 @@ final class VatTest {
         c.part("promise 28");
         OilPress x = Village.withGroves();
         int vat = Village.filled(x, 2, 1000, PLAIN);
-        tell(c, x, vat, "filled", 2, 0, 50000, 1000, 500, 0, 10, 1);
+        Due.held(c, x, vat, "filled", 2, 0, 50000, 1000, 500, 0, 10, 1);
         c.due("held(0, -1)", x.held(0, -1), -1);
         c.due("held(0, 8)", x.held(0, 8), -1);
         c.due("held(-1, 0)", x.held(-1, 0), -1);
         c.due("held(1, 0)", x.held(1, 0), -1);
         x.vat(1, true, 77);
-        tell(c, x, 1, "empty", 1, 1, 77, 0, 0, 0, 0, 1);
+        Due.held(c, x, 1, "empty", 1, 1, 77, 0, 0, 0, 0, 1);
     }
 
     private static void heldSourness(Check c) {
@@ -270,18 +270,18 @@ final class VatTest {
         x.vat(2, false, 50000);
         Village.shared(x, 0, 30, Village.sampled(x, SMALL, 0, 100, 100, 0));
         x.pour(0, 0);
-        tell(c, x, 0, "not sour", 2, 0, 50000, 30, 3, 0, 0, 1);
+        Due.held(c, x, 0, "not sour", 2, 0, 50000, 30, 3, 0, 0, 1);
         Village.shared(x, 0, 60, Village.sampled(x, SMALL, 0, 100, 100, 11));
         x.pour(0, 0);
-        tell(c, x, 0, "two parts of three", 2, 0, 50000, 90, 9, 0, 22, 3);
+        Due.held(c, x, 0, "two parts of three", 2, 0, 50000, 90, 9, 0, 22, 3);
         Village.shared(x, 0, 10, Village.sampled(x, SMALL, 0, 100, 100, 10),
                 Village.sampled(x, SMALL, 0, 100, 100, 13));
         c.due("the pressing's, cut", x.at(0, 9), 11);
         x.pour(0, 0);
-        tell(c, x, 0, "with the cut one", 2, 0, 50000, 100, 10, 0, 77, 10);
+        Due.held(c, x, 0, "with the cut one", 2, 0, 50000, 100, 10, 0, 77, 10);
         x.fetch(1);
         x.draw(0, 3);
-        tell(c, x, 0, "as oil is taken", 2, 0, 50000, 43, 7, 1, 77, 10);
+        Due.held(c, x, 0, "as oil is taken", 2, 0, 50000, 43, 7, 1, 77, 10);
     }
 
     private static void balances(Check c) {
@@ -307,10 +307,7 @@ final class VatTest {
         c.due("paid by hand", x.balance(), 0);
         x.fetch(0);
         c.due("fetched", x.balance(), 0);
-        int[] want = {3, 1, 1, 0, 2, 0, 100, 90, 3, 4, 0};
-        for (int what = 0; what < want.length; what++) {
-            c.due("count(" + what + ")", x.count(what), want[what]);
-        }
+        Due.counts(c, x, "fetched", 3, 1, 1, 0, 2, 0, 100, 90, 3, 4, 0);
         OilPress y = Village.withGroves();
         int vat = Village.filled(y, 0, 1000, PLAIN);
         y.lend(5, vat, 100);
@@ -319,11 +316,5 @@ final class VatTest {
         y.pour(1, other);
         y.pay(1);
         c.due("paid", y.balance(), 0);
-    }
-
-    private static void tell(Check c, OilPress x, int vat, String when, int... want) {
-        for (int what = 0; what < want.length; what++) {
-            c.due(when + ", held(" + vat + ", " + what + ")", x.held(vat, what), want[what]);
-        }
     }
 }

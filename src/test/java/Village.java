@@ -57,4 +57,42 @@ final class Village {
         x.pour(0, vat);
         return vat;
     }
+
+    /** Lot i is in state i, all of the kind and of grove 0; vat 0 is for lamps; it is day 0 still. */
+    static OilPress lotOfEachState(int kind) {
+        OilPress x = withGroves();
+        for (int mill = 0; mill < 3; mill++) {
+            x.wash(mill);
+        }
+        x.wait(2);
+        for (int lot = 0; lot < 7; lot++) {
+            x.lot(kind, 0);
+        }
+        x.scale(7);
+        for (int lot = 1; lot < 7; lot++) {
+            x.weigh(lot, 80);
+        }
+        for (int lot = 2; lot < 7; lot++) {
+            x.sample(lot, 100, 10);
+        }
+        x.vat(2, kind == CLEAN, 500);
+        shared(x, 0, 10, 6);
+        x.pour(0, 0);
+        shared(x, 2, 10, 5);
+        pressed(x, 1, 4);
+        x.put(3, 0);
+        return x;
+    }
+
+    /** Waits till the hour (999 at most). */
+    static void till(OilPress x, int hour) {
+        while (x.count(4) < hour && hour <= 999) {
+            x.wait(Math.min(100, hour - x.count(4)));
+        }
+    }
+
+    /** The numbers nearest to least .. most and farthest from it on both sides. */
+    static int[] outside(int least, int most) {
+        return new int[] {Integer.MIN_VALUE, least - 1, most + 1, Integer.MAX_VALUE};
+    }
 }
